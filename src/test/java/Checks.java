@@ -1,9 +1,30 @@
-/** Counts the answers that are not as due, and ends a test with exit code 1 if there was one. */
+/**
+ * Counts the answers that are not as due, and ends a test with exit code 1 if there was one,
+ * or if a call does not come to an end.
+ */
 final class Checks {
+    private static final long LONGEST_TEST_MS = 300_000;
+
     private static int made = 0;
     private static int wrong = 0;
+    private static String about = "";
+
+    static {
+        Thread watch = new Thread(Checks::stopTooLongATest);
+        watch.setDaemon(true);
+        watch.start();
+    }
 
     private Checks() {
+    }
+
+    /** What the checks to come are for: told ahead of each that is wrong. */
+    static void about(String what) {
+        about = what + ": ";
+    }
+
+    static int made() {
+        return made;
     }
 
     static void equal(String what, long got, long want) {
@@ -46,6 +67,10 @@ final class Checks {
         thrown(what, IllegalStateException.class, call);
     }
 
+    static void noSuchElement(String what, Runnable call) {
+        thrown(what, java.util.NoSuchElementException.class, call);
+    }
+
     static void end() {
         System.out.println(made + " checks, " + wrong + " wrong");
         if (wrong > 0 || made == 0) {
@@ -53,8 +78,18 @@ final class Checks {
         }
     }
 
+    private static void stopTooLongATest() {
+        try {
+            Thread.sleep(LONGEST_TEST_MS);
+        } catch (InterruptedException e) {
+            return;
+        }
+        System.out.println(about + "does not come to an end");
+        Runtime.getRuntime().halt(1);
+    }
+
     private static void wrong(String form, Object... parts) {
         wrong++;
-        System.out.println(String.format(form, parts));
+        System.out.println(about + String.format(form, parts));
     }
 }
