@@ -62,7 +62,7 @@ public final class LessonWeave {
         if (has(syllabus.needs[aim], other)) {
             throw new IllegalStateException("it needs the other one already");
         }
-        if (has(syllabus.reach(other), aim)) {
+        if (has(syllabus.neededByAnyWay(other), aim)) {
             throw new IllegalStateException("the other one needs it");
         }
         syllabus.setNeeds(aim, syllabus.needs[aim] | 1 << other);
@@ -107,7 +107,7 @@ public final class LessonWeave {
         if (!isAim(aim)) {
             throw new IndexOutOfBoundsException("there is no such aim");
         }
-        return syllabus.reach(aim);
+        return syllabus.neededByAnyWay(aim);
     }
 
     public int ordered(int place) throws IndexOutOfBoundsException {
@@ -213,7 +213,7 @@ public final class LessonWeave {
         return (set >> aim & 1) == 1;
     }
 
-    /** The aims, what they need, and their order. */
+    // Apart from the plan, as a lost day changes nothing of it.
     private static final class Syllabus {
         private int count;
         private final int[] lessons;
@@ -253,8 +253,7 @@ public final class LessonWeave {
             putInOrder();
         }
 
-        /** All that an aim needs, by itself or by way of others. */
-        int reach(int aim) {
+        int neededByAnyWay(int aim) {
             int found = needs[aim];
             // A way of needs is no longer than there are aims, so as many rounds find all.
             for (int round = 1; round < count; round++) {
@@ -354,7 +353,7 @@ public final class LessonWeave {
         }
     }
 
-    /** What lies on the days; laid whole after each change. */
+    // Laid whole anew after each change, as a change can shift all that lies behind it.
     private static final class Plan {
         private final int[] things;
         private final int[] lessonDays;
@@ -436,7 +435,7 @@ public final class LessonWeave {
             return since[aim] + 2 * nextGap(aim, syllabus);
         }
 
-        /** The gap ahead of an aim's next revisit: it doubles with each one laid. */
+        // A shift, as the gap doubles with each revisit laid.
         private int nextGap(int aim, Syllabus syllabus) {
             return syllabus.gap[aim] << revisitsLaid[aim];
         }
@@ -490,7 +489,6 @@ public final class LessonWeave {
             lastUsed = day;
         }
 
-        /** How many of the things laid in the former plan lie elsewhere in this one, or nowhere. */
         int movedSince(Plan former) {
             return changed(former.lessonDays, lessonDays) + changed(former.revisitDays, revisitDays);
         }
@@ -498,6 +496,7 @@ public final class LessonWeave {
         private static int changed(int[] before, int[] after) {
             int changes = 0;
             for (int k = 0; k < before.length && k < after.length; k++) {
+                // What was not laid before does not move, though it may be laid now.
                 if (before[k] != NONE && before[k] != after[k]) {
                     changes++;
                 }
